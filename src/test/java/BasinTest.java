@@ -144,6 +144,11 @@ public final class BasinTest {
         EelLocks less = Checks.canal("CK3B101B101B200");
         less.give(0, 0);
         teaOf(less, "it has but one", 1, 0, EelLocks.NONE, EelLocks.NONE);
+        EelLocks zeros = Checks.canal("CK3B102B101B200");
+        zeros.letBy(0);
+        teaOf(zeros, "barge 0 at lock 0", 0, 1, 1, 100);
+        zeros.give(1, 0);
+        teaOf(zeros, "barge 0 at lock 0 twice", 0, 1, 2, 10000);
         EelLocks three = Checks.canal("CK3B102B109B200");
         three.give(0, 0);
         three.give(0, 0);

@@ -11,6 +11,7 @@ public final class CanalTest {
         fault();
         canal();
         canalMadeAnew();
+        noTeaIsLeft();
         barge();
         lock();
         CHECKS.end();
@@ -180,10 +181,24 @@ public final class CanalTest {
         CHECKS.due("5: the seed stays", x.seed(0), 77);
         Checks.tell(x, "CB200K3");
         CHECKS.due("5: a smaller one", x.canal(), 11);
+        CHECKS.due("5: of one barge", x.count(2), 1);
         CHECKS.due("5: its barges", x.barge(1, 0), EelLocks.UNKNOWN);
         CHECKS.due("5: its locks", x.lock(1, 0), EelLocks.UNKNOWN);
         CHECKS.due("5: its row", x.count(4), 1);
         CHECKS.due("5: its tea", x.count(5), 0);
+    }
+
+    private static void noTeaIsLeft() {
+        EelLocks x = Checks.canal("CK3K3K3K3K3B105B105B105B105B105B105");
+        for (int lock = 0; lock < 5; lock++) {
+            for (int barge = 0; barge < 6; barge++) {
+                x.give(barge, lock);
+            }
+        }
+        CHECKS.due("5: all is given", x.count(6), 30);
+        x.canal();
+        CHECKS.due("5: none is given", x.count(6), 0);
+        CHECKS.due("5: all have theirs", x.count(5), 30);
     }
 
     private static void barge() {
@@ -228,6 +243,9 @@ public final class CanalTest {
         CHECKS.due("7: given by all", x.lock(0, 2), 3);
         CHECKS.due("7: given at the last one", x.lock(3, 2), 1);
         CHECKS.due("7: given at no other", x.lock(1, 2), 0);
+        x.give(0, 1);
+        CHECKS.due("7: not what is given at the next", x.lock(0, 2), 3);
+        CHECKS.due("7: what is given at the next", x.lock(1, 2), 1);
         CHECKS.due("7: passed", x.lock(0, 1), 1);
         CHECKS.due("7: not passed", x.lock(1, 1), 0);
         CHECKS.due("7: its law is another", x.lock(1, 0), 1);

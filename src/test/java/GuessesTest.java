@@ -40,6 +40,7 @@ public final class GuessesTest {
         gaveAt(two, "ahead of all", 0, 12, 3, 0, 0);
         two.pass();
         gaveAt(two, "from where it is", 1, 21, 3, 0, 0);
+        gaveAt(Checks.canal("CK0K1B100B100"), "as it comes out of that lock", 0, 12, 3, 0, 0);
         gaveAt(Checks.canal("CK0"), "nobody", 0, 0, 1, 0, 0);
         gaveAt(Checks.canal("CK2B100"), "one", 0, 1, 2, 0, 0);
         gaveAt(Checks.canal("CK2B200B200B100B100B100B100"), "of six", 0, 124365, 4, 8 + 32, 4 + 16);
@@ -82,6 +83,14 @@ public final class GuessesTest {
         x.give(0, 0);
         restsAt(x, "four would be needed", 1, 2, 0, 1, 0);
         restsAt(x, "the other cannot gain", 0, 1, 0, 1, 0);
+        EelLocks behind = Checks.canal("CK3B109B109B109B109");
+        behind.give(2, 0);
+        restsAt(behind, "the one by one load, the other by two", 1, 3, 0, 1, 12);
+        restsAt(behind, "the other by one load, the one by two", 3, 1, 0, 1, 21);
+        behind.give(3, 0);
+        behind.give(3, 0);
+        restsAt(behind, "it is ahead by what it gave", 1, 3, 0, 1, 10);
+        restsAt(behind, "one load for as much, two for more: both would", 2, 3, 0, 0, EelLocks.NONE);
         restsAt(Checks.canal("CK1B100B100"), "tea is for nothing", 0, 1, 0, 1, 0);
         restsAt(Checks.canal("CK3K1B100B100"), "all comes the other way round", 0, 1, 0, 1, 0);
         EelLocks later = Checks.canal("CK0K3B100B100B100B100");

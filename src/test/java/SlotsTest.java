@@ -96,6 +96,11 @@ public final class SlotsTest {
         x.pass();
         int[] atBasin = {22, 2, 4, 2, 1243, 12, 3, 6, 5};
         countsAre(x, "at the basin", atBasin);
+        EelLocks far = Checks.canal("CK0K0K0K0K0B101B101B101B101B101B102");
+        far.give(5, 4);
+        far.give(0, 0);
+        CHECKS.due("28: given at the last lock, too", far.count(6), 2);
+        CHECKS.due("28: tea of all", far.count(5), 5);
         CHECKS.due("28: what -1", x.count(-1), EelLocks.OUTSIDE);
         CHECKS.due("28: what 9", x.count(9), EelLocks.OUTSIDE);
         CHECKS.due("28: nobody's hour", Checks.canal("CK1K1").count(8), 0);

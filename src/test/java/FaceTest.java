@@ -1,0 +1,147 @@
+import java.io.IOException;
+import java.lang.reflect.Constructor;
+import java.lang.reflect.Field;
+import java.lang.reflect.Method;
+import java.lang.reflect.Modifier;
+import java.nio.charset.StandardCharsets;
+import java.nio.file.Files;
+import java.nio.file.Path;
+import java.util.Set;
+import java.util.TreeSet;
+import java.util.regex.Matcher;
+import java.util.regex.Pattern;
+
+/** The public face as the document has it, and of ../shared/LANGUAGE.md what can be seen from outside. */
+public final class FaceTest {
+    private static final Checks CHECKS = new Checks();
+    private static final String FACE = "write(int)int wipe()int fault()int canal()int barge(int,int)int lock(int,int)int"
+            + " pass()int give(int,int)int letBy(int)int learn(int,int)int undo()int basin()int hour(int)int"
+            + " gains(int)int mates(int)int first(int,int)int tea(int,int,boolean)int judge(int,int)int"
+            + " share(int,boolean)int gave(int,int,int)int rests(int,int,int,int)int"
+            + " asleep(int,int,int,boolean)int seed(long)long days(int,int)int keep(int)int again(int)int count(int)int";
+    private static final String CONSTANTS = "UNKNOWN=-1 OUTSIDE=-2 STATE=-3 FULL=-4 NONE=-9";
+    private static final String RULED_OUT = "\\b(throw|throws|try|catch|finally|synchronized|assert|import|package"
+            + "|instanceof|protected|System\\.(?!arraycopy)\\w+|Arrays|HashMap|Random|\\w+Exact)\\b|->|::";
+
+    public static void main(String[] args) throws IOException {
+        face();
+        constants();
+        inside();
+        words();
+        nothingIsMadeByCalls();
+        CHECKS.end();
+    }
+
+    private static void face() {
+        Set<String> open = new TreeSet<>();
+        Set<String> closed = new TreeSet<>();
+        for (Method method : EelLocks.class.getDeclaredMethods()) {
+            boolean isPublic = Modifier.isPublic(method.getModifiers());
+            (isPublic ? open : closed).add(isPublic ? signature(method) : method.getName());
+            CHECKS.holds("no half-open method: " + method, isPublic || Modifier.isPrivate(method.getModifiers()));
+            CHECKS.holds("no static public method: " + method, !isPublic || !Modifier.isStatic(method.getModifiers()));
+        }
+        Set<String> due = new TreeSet<>(Set.of(FACE.split(" ")));
+        CHECKS.holds("the methods are " + due + ", not " + open, open.equals(due));
+        for (String method : due) {
+            String name = method.substring(0, method.indexOf('('));
+            CHECKS.holds("no private method is a " + name, !closed.contains(name));
+        }
+        Constructor<?>[] constructors = EelLocks.class.getDeclaredConstructors();
+        CHECKS.due("constructors", constructors.length, 1);
+        CHECKS.holds("it is public", Modifier.isPublic(constructors[0].getModifiers()));
+        CHECKS.due("of no parameters", constructors[0].getParameterCount(), 0);
+        CHECKS.due("the class is public and final", EelLocks.class.getModifiers(), Modifier.PUBLIC | Modifier.FINAL);
+        CHECKS.holds("without a package", EelLocks.class.getPackageName().isEmpty());
+    }
+
+    private static String signature(Method method) {
+        StringBuilder signature = new StringBuilder(method.getName()).append('(');
+        for (Class<?> type : method.getParameterTypes()) {
+            signature.append(signature.charAt(signature.length() - 1) == '(' ? "" : ",").append(type.getName());
+        }
+        return signature.append(')').append(method.getReturnType().getName()).toString();
+    }
+
+    private static void constants() {
+        Set<String> open = new TreeSet<>();
+        for (Field field : EelLocks.class.getDeclaredFields()) {
+            int modifiers = field.getModifiers();
+            CHECKS.holds("no static field may change: " + field, !Modifier.isStatic(modifiers) || Modifier.isFinal(modifiers));
+            CHECKS.holds("no half-open field: " + field, Modifier.isPublic(modifiers) || Modifier.isPrivate(modifiers));
+            if (Modifier.isPublic(modifiers)) {
+                open.add(field.getName() + "=" + valueOf(field));
+            }
+        }
+        Set<String> due = new TreeSet<>(Set.of(CONSTANTS.split(" ")));
+        CHECKS.holds("the constants are " + due + ", not " + open, open.equals(due));
+    }
+
+    private static int valueOf(Field field) {
+        try {
+            return field.getInt(null);
+        } catch (IllegalAccessException e) {
+            throw new IllegalStateException(e);
+        }
+    }
+
+    private static void inside() {
+        Class<?>[] inside = EelLocks.class.getDeclaredClasses();
+        CHECKS.holds("some twelve classes", inside.length < 12);
+        for (Class<?> one : inside) {
+            int modifiers = one.getModifiers();
+            CHECKS.holds("private and static: " + one, Modifier.isPrivate(modifiers) && Modifier.isStatic(modifiers));
+            int fields = 0;
+            for (Field field : one.getDeclaredFields()) {
+                fields += Modifier.isStatic(field.getModifiers()) ? 0 : 1;
+            }
+            CHECKS.holds("some twenty fields: " + one, fields <= 20);
+        }
+    }
+
+    private static void words() throws IOException {
+        String source = Files.readString(Path.of("src/main/java/EelLocks.java"), StandardCharsets.UTF_8);
+        String code = source.replaceAll("(?s)/\\*.*?\\*/", "").replaceAll("//[^\n]*", "");
+        Matcher ruledOut = Pattern.compile(RULED_OUT).matcher(code);
+        while (ruledOut.find()) {
+            CHECKS.holds("ruled out: " + ruledOut.group(), false);
+        }
+        CHECKS.holds("no texts", code.indexOf('"') < 0);
+        CHECKS.holds("no sign beyond 127", source.chars().allMatch(c -> c < 128));
+        int length = 0;
+        for (String line : code.split("\n")) {
+            boolean opens = line.matches(" {4}( {4})?\\S.*\\) \\{");
+            length = opens ? 0 : length + 1;
+            CHECKS.holds("methods stay short: " + line, !line.matches(" {4}( {4})?\\}") || length <= 60);
+        }
+    }
+
+    /** The rows are made with the object, so that no run of calls fills the room. */
+    private static void nothingIsMadeByCalls() {
+        EelLocks x = Checks.canal("CK3K1K2K3K0B119B128B107B116B125B134");
+        callAll(x);
+        com.sun.management.ThreadMXBean bean =
+                (com.sun.management.ThreadMXBean) java.lang.management.ManagementFactory.getThreadMXBean();
+        long id = Thread.currentThread().getId();
+        bean.getThreadAllocatedBytes(id);
+        long before = bean.getThreadAllocatedBytes(id);
+        callAll(x);
+        long made = bean.getThreadAllocatedBytes(id) - before;
+        CHECKS.holds("calls make nothing, not " + made + " bytes", made < 1000);
+    }
+
+    private static int callAll(EelLocks x) {
+        int sum = x.wipe();
+        for (char letter : new char[] {'C', 'K', '3', 'K', '2', 'B', '1', '2', '9', 'B', '1', '1', '9', 'B', '1', '1', '9'}) {
+            sum += x.write(letter);
+        }
+        sum += x.fault() + x.canal() + x.give(1, 0) + x.letBy(1) + x.learn(1, 0) + x.pass() + x.undo() + x.keep(0);
+        sum += x.barge(1, 3) + x.lock(1, 2) + x.basin() + x.hour(1) + x.gains(1) + x.mates(1) + x.first(1, 2);
+        sum += x.tea(2, 1, true) + x.judge(3, 123) + x.share(1, true) + x.gave(0, 123, 1) + x.rests(0, 1, 0, 1);
+        sum += x.asleep(0, 1, 3, true) + x.days(0, 30) + x.again(0);
+        for (int what = 0; what <= 8; what++) {
+            sum += x.count(what);
+        }
+        return sum + (int) x.seed(3);
+    }
+}
