@@ -80,6 +80,7 @@ public final class GuessesTest {
         x.give(0, 0);
         x.give(0, 0);
         restsAt(x, "three loads are less than a place", 1, 2, 0, 1, 30);
+        restsAt(x, "as the other would give three, the one would give one", 0, 1, 0, 0, EelLocks.NONE);
         x.give(0, 0);
         restsAt(x, "four would be needed", 1, 2, 0, 1, 0);
         restsAt(x, "the other cannot gain", 0, 1, 0, 1, 0);
