@@ -42,7 +42,10 @@ public final class RandomRunsTest {
 
     private void due(String call, long got, long want) {
         calls++;
-        checks.due("run " + run + ", call " + calls + ": " + call, got, want);
+        // what later calls answer is free
+        if (calls <= CALLS) {
+            checks.due("run " + run + ", call " + calls + ": " + call, got, want);
+        }
     }
 
     private void tellCanal() {
