@@ -313,6 +313,8 @@ public final class ActsEdgesTest {
         passes("K2B100B190", 12);
         passes("K2B100B100", 12);
         passes("K2B190B190", 12);
+        passes("K2B110B109", 21);
+        passes("K2B119B110", 12);
 
         CHECKS.sentence("8", "BY TEA: the other way round, if the second one gave more TEA there.");
         passes("K3B100B109", 12);

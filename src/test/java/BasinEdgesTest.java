@@ -279,6 +279,12 @@ public final class BasinEdgesTest {
         EelLocks one = Checks.canal("CK3B109B101B200");
         one.give(0, 0);
         teaOf("it has one of two", one, 1, 0, NONE, NONE);
+        EelLocks last = lastTwoAhead();
+        last.give(4, 4);
+        for (int loads = 0; loads < 8; loads++) {
+            last.give(5, 0);
+        }
+        teaOf("the last barge has one of two", last, 5, 4, NONE, NONE);
         EelLocks two = Checks.canal("CK3B109B102B200");
         two.give(0, 0);
         teaOf("it has both", two, 1, 0, 2, 11010);

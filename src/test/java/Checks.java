@@ -65,23 +65,36 @@ final class Checks {
     /** Of two objects of one past only one is asked; whatever comes then, both answer alike. */
     void changesNothing(String call, Supplier<EelLocks> past, ToLongFunction<EelLocks> asked, long want) {
         EelLocks x = past.get();
-        EelLocks y = past.get();
         due(call, asked.applyAsLong(x), want);
-        lookAtAll(call + ", then", x, y);
-        due(call + ", then seed(1)", x.seed(1), y.seed(1));
+        goBackAndOn(call, x, past.get());
+        EelLocks z = past.get();
+        asked.applyAsLong(z);
+        lookAtAll(call + ", then", z, past.get());
+    }
+
+    /** By few other calls, as one that looks and does harm would do it to both. */
+    private void goBackAndOn(String call, EelLocks x, EelLocks y) {
+        lookAtCounts(call + ", then", x, y);
         boolean more = true;
         for (int i = 0; i <= MOST_ACTS && more; i++) {
             int left = y.undo();
             more = left >= 0;
             due(call + ", then undo to " + left, x.undo(), left);
-            lookAtState(call + ", then undo to " + left, x, y);
+            lookAtCounts(call + ", then undo to " + left, x, y);
         }
         for (int slot = 0; slot < 2; slot++) {
             due(call + ", then again(" + slot + ")", x.again(slot), y.again(slot));
             lookAtState(call + ", then again(" + slot + ")", x, y);
         }
+        due(call + ", then seed(1)", x.seed(1), y.seed(1));
         due(call + ", then canal()", x.canal(), y.canal());
         lookAtAll(call + ", then canal()", x, y);
+    }
+
+    private void lookAtCounts(String when, EelLocks x, EelLocks y) {
+        for (int what = 3; what <= 8; what++) {
+            due(when + " count(" + what + ")", x.count(what), y.count(what));
+        }
     }
 
     private void lookAtAll(String when, EelLocks x, EelLocks y) {
@@ -97,9 +110,7 @@ final class Checks {
     }
 
     private void lookAtState(String when, EelLocks x, EelLocks y) {
-        for (int what = 3; what <= 8; what++) {
-            due(when + " count(" + what + ")", x.count(what), y.count(what));
-        }
+        lookAtCounts(when, x, y);
         int barges = y.count(2);
         for (int barge = 0; barge < barges; barge++) {
             due(when + " barge(" + barge + ", 2)", x.barge(barge, 2), y.barge(barge, 2));

@@ -363,6 +363,11 @@ public final class GuessesEdgesTest {
         CHECKS.due("beyond an int", x.seed(0), 1L << 32);
         CHECKS.due("0", x.seed(7), 0);
         CHECKS.due("the same again", x.seed(7), 7);
+        EelLocks kept = Pasts.morning();
+        kept.give(1, 0);
+        kept.seed(4);
+        CHECKS.due("what was kept stays", kept.again(0), 0);
+        CHECKS.due("as it was kept", kept.count(6), 0);
 
         CHECKS.sentence("24", "THE SEED, a long; 0 at first");
         CHECKS.due("-1 is no refusal", new EelLocks().seed(-1), 0);

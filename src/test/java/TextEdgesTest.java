@@ -130,6 +130,7 @@ public final class TextEdgesTest {
         CHECKS.due("the acts stay", y.count(7), 6);
         CHECKS.due("the seed stays", y.seed(0), 77);
         CHECKS.due("a slot stays", y.again(1), 1);
+        CHECKS.due("as it was kept", y.count(6), 2);
     }
 
     /** Behind what is begun all 256 letters; those taken are answered by one answer, the others by their place. */
