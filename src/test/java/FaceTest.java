@@ -6,6 +6,7 @@ import java.lang.reflect.Modifier;
 import java.nio.charset.StandardCharsets;
 import java.nio.file.Files;
 import java.nio.file.Path;
+import java.util.ArrayList;
 import java.util.List;
 import java.util.Set;
 import java.util.TreeSet;
@@ -23,7 +24,8 @@ public final class FaceTest {
             + " asleep(int,int,int,boolean)int seed(long)long days(int,int)int keep(int)int again(int)int count(int)int";
     private static final String CONSTANTS = "UNKNOWN=-1 OUTSIDE=-2 STATE=-3 FULL=-4 NONE=-9";
     private static final String RULED_OUT = "\\b(throw|throws|try|catch|finally|synchronized|assert|package"
-            + "|import (?!java\\.util\\.(ArrayList|List|Arrays|Iterator);)|System\\.(?!arraycopy)\\w+|\\w+Exact)\\b|::";
+            + "|import (?!java\\.util\\.(ArrayList|List|Arrays|Iterator);)|(?<!import )java\\.\\w+|\\w+Exact"
+            + "|System\\.(?!arraycopy)\\w+|Arrays\\.(?!copyOf|fill)\\w+|Math\\.(?!max|min|abs|floor(Div|Mod))\\w+)\\b|::";
     /** An object takes 16 bytes or more, so no call that takes fewer bytes fills the room of 600,000 in 512 calls. */
     private static final long ROOM_OF_A_CALL = 16 * 600_000 / 512;
 
@@ -31,6 +33,7 @@ public final class FaceTest {
         face();
         constants();
         inside();
+        sections();
         words();
         room();
         CHECKS.end();
@@ -104,9 +107,30 @@ public final class FaceTest {
         }
     }
 
+    /** 'Ahead of the calls .. the interface says ..': the class has these lines, and behind each just these calls. */
+    private static void sections() throws IOException {
+        String doc = Files.readString(Path.of("../shared/DOC.md"), StandardCharsets.UTF_8);
+        List<String> due = new ArrayList<>();
+        Matcher ahead = Pattern.compile("(?m)^Ahead of the calls (.*) the interface says: (----.*)\\.$").matcher(doc);
+        while (ahead.find()) {
+            due.add(ahead.group(2));
+            due.addAll(List.of(ahead.group(1).replace("`", "").split(", ")));
+        }
+        CHECKS.due("lines that the interface says, and calls", due.size(), 5 + 27);
+        List<String> told = new ArrayList<>();
+        Matcher line = Pattern.compile("(?m)^ {4}(?:// (----.*)|public (?:int|long) (\\w+)\\(.*)$").matcher(source());
+        while (line.find()) {
+            told.add(line.group(1) != null ? line.group(1) : line.group(2));
+        }
+        CHECKS.holds("the interface says " + due + ", not " + told, told.equals(due));
+    }
+
+    private static String source() throws IOException {
+        return Files.readString(Path.of("src/main/java/EelLocks.java"), StandardCharsets.UTF_8);
+    }
+
     private static void words() throws IOException {
-        String source = Files.readString(Path.of("src/main/java/EelLocks.java"), StandardCharsets.UTF_8);
-        String code = source.replaceAll("(?s)/\\*.*?\\*/", "").replaceAll("//[^\n]*", "");
+        String code = source().replaceAll("(?s)/\\*.*?\\*/", "").replaceAll("//[^\n]*", "");
         Matcher ruledOut = Pattern.compile(RULED_OUT).matcher(code);
         while (ruledOut.find()) {
             CHECKS.holds("ruled out: " + ruledOut.group(), false);
